@@ -17,7 +17,8 @@ public final class AlgolJudge {
     private static final int TOKEN_LIMIT = TAPE_LIMIT + 1;
     // Between two declared names there is another token at least.
     private static final int NAME_LIMIT = TAPE_LIMIT / 2 + 1;
-    // A begin takes ten bytes with its end and a sign behind it, a procedure more.
+    // A begin takes ten bytes with its end and a sign behind it, a procedure more; only those that
+    // are still open, which are few, take less.
     private static final int SCOPE_LIMIT = TAPE_LIMIT / 9;
 
     private static final int DEPTH_LIMIT = 20;
@@ -67,11 +68,14 @@ public final class AlgolJudge {
     private int length;
 
     public AlgolJudge() {
+        Tokens text = new Tokens();
+        Table declared = new Table();
+        Scopes around = new Scopes(text, declared);
         tape = new byte[TAPE_LIMIT];
-        tokens = new Tokens();
-        table = new Table();
-        scopes = new Scopes(tokens, table);
-        blocks = new Blocks(tokens, scopes, new Rules(table, scopes));
+        tokens = text;
+        table = declared;
+        scopes = around;
+        blocks = new Blocks(text, around, new Rules(declared, around));
         book = new Book();
         length = 0;
     }
@@ -624,7 +628,7 @@ public final class AlgolJudge {
             return scope >= 0 && scope < size ? parents[scope] : NOTHING;
         }
 
-        /** The innermost procedure of a scope, the one whose parameters it has among them. */
+        /** The innermost procedure around a scope, or the one whose parameters it holds. */
         int procedure(int scope) {
             return scope >= 0 && scope < size ? procedures[scope] : NOTHING;
         }
