@@ -5,18 +5,32 @@ import java.util.Arrays;
 final class Checker {
     private int calls = 0;
     private int wrong = 0;
+    private String sentence = "";
+
+    /** The words of the document that the next calls are about: a wrong answer is printed with them. */
+    void sentence(String words) {
+        sentence = "\"" + words + "\": ";
+    }
 
     void due(String call, int got, int want) {
         calls++;
         if (got != want) {
             wrong++;
-            System.out.println(call + " answered " + got + ", due is " + want);
+            System.out.println(sentence + shortened(call) + " answered " + got + ", due is " + want);
         }
+    }
+
+    private static String shortened(String call) {
+        int size = call.length();
+        return size <= 400 ? call : call.substring(0, 200) + " .. " + call.substring(size - 200);
     }
 
     /** Feeds a text to an object, twenty bytes a call, and cuts the tape behind it. */
     static void feed(AlgolJudge judge, String text) {
         byte[] bytes = text.getBytes(StandardCharsets.ISO_8859_1);
+        if (bytes.length > 3000) {
+            throw new IllegalArgumentException("a text of " + bytes.length + " bytes");
+        }
         byte[] row = Arrays.copyOf(bytes, (bytes.length + 19) / 20 * 20);
         for (int i = 0; i < row.length; i += 20) {
             judge.feed(four(row, i), four(row, i + 4), four(row, i + 8), four(row, i + 12), four(row, i + 16));
@@ -50,6 +64,28 @@ final class Checker {
         int place = marked.indexOf('|');
         String text = marked.substring(0, place) + marked.substring(place + 1);
         due("judge() of " + marked, judge(new AlgolJudge(), text), place);
+    }
+
+    /** A text with {number} in front of each NAME that means one: at the other places -1 is due. */
+    void meant(String marked) {
+        StringBuilder text = new StringBuilder();
+        int[] due = new int[3000];
+        Arrays.fill(due, -1);
+        for (int i = 0; i < marked.length(); i++) {
+            if (marked.charAt(i) == '{') {
+                int close = marked.indexOf('}', i);
+                due[text.length()] = Integer.parseInt(marked.substring(i + 1, close));
+                i = close;
+            } else {
+                text.append(marked.charAt(i));
+            }
+        }
+        AlgolJudge judge = null;
+        for (int place = 0; place < text.length() + 20; place++) {
+            // An object is made for 512 calls.
+            judge = place % 300 == 0 ? judged(text.toString()) : judge;
+            due("means(" + place + ") of " + marked, judge.means(place), due[place]);
+        }
     }
 
     /** A part again and again. */

@@ -11,26 +11,6 @@ public final class MeansTest {
         checker.finish();
     }
 
-    /** A text with {number} in front of each NAME that means one: at all other places -1 is due. */
-    private static void meant(Checker checker, String marked) {
-        StringBuilder text = new StringBuilder();
-        int[] due = new int[3000];
-        java.util.Arrays.fill(due, -1);
-        for (int i = 0; i < marked.length(); i++) {
-            if (marked.charAt(i) == '{') {
-                int close = marked.indexOf('}', i);
-                due[text.length()] = Integer.parseInt(marked.substring(i + 1, close));
-                i = close;
-            } else {
-                text.append(marked.charAt(i));
-            }
-        }
-        AlgolJudge judge = checker.judged(text.toString());
-        for (int place = 0; place < 3000; place++) {
-            checker.due("means(" + place + ") of " + marked, judge.means(place), due[place]);
-        }
-    }
-
     private static void wrongPlaces(Checker checker) {
         AlgolJudge judge = new AlgolJudge();
         int[] places = {-1, 3000, 3001, Integer.MIN_VALUE, Integer.MAX_VALUE};
@@ -52,34 +32,34 @@ public final class MeansTest {
     }
 
     private static void usesOfAllKinds(Checker checker) {
-        meant(checker, "begin end");
-        meant(checker, "begin integer index; {0}index := {0}index + {0}index end");
-        meant(checker, "begin integer i; boolean b; for {0}i := {0}i step {0}i until {0}i, {0}i while {1}b do"
+        checker.meant("begin end");
+        checker.meant("begin integer index; {0}index := {0}index + {0}index end");
+        checker.meant("begin integer i; boolean b; for {0}i := {0}i step {0}i until {0}i, {0}i while {1}b do"
             + " if {1}b then print({0}i) else {0}i := if {1}b then {0}i else - {0}i end");
-        meant(checker, "begin integer array a[1:2], c[1:2, 1:2]; {0}a[{0}a[1]] := {1}c[{0}a[1], 2] := 3 end");
-        meant(checker, "begin switch s := {1}l, {2}m, {1}l; l: goto {2}m; m: goto {0}s[1] end");
-        meant(checker, "begin procedure p; {0}p; integer procedure f; {1}f := {1}f + 1; {0}p; {1}f; print({1}f) end");
-        meant(checker, "begin integer array a[1:2]; procedure p(x, y, z); integer x; integer array y; label z;"
+        checker.meant("begin integer array a[1:2], c[1:2, 1:2]; {0}a[{0}a[1]] := {1}c[{0}a[1], 2] := 3 end");
+        checker.meant("begin switch s := {1}l, {2}m, {1}l; l: goto {2}m; m: goto {0}s[1] end");
+        checker.meant("begin procedure p; {0}p; integer procedure f; {1}f := {1}f + 1; {0}p; {1}f; print({1}f) end");
+        checker.meant("begin integer array a[1:2]; procedure p(x, y, z); integer x; integer array y; label z;"
             + " begin {3}x := {4}y[1]; goto {5}z; {1}p({3}x, {4}y, {5}z) end; l: {1}p(1, {0}a, {2}l) end");
     }
 
     private static void scopes(Checker checker) {
-        meant(checker, "begin integer i; begin {0}i := 1 end; begin integer i; {1}i := 1 end; {0}i := 2 end");
-        meant(checker, "begin l: begin goto {1}l; begin goto {1}l end; l: end; goto {0}l end");
-        meant(checker, "begin integer p; begin procedure q(p); integer p; {2}p := 1; {1}q({0}p) end; {0}p := 1 end");
-        meant(checker, "begin procedure a; {2}i := 1; procedure b; begin integer i; {3}i := 1 end; integer i; {0}a end");
-        meant(checker, "begin integer procedure f(f); value f; integer f; {1}f := 1; {0}f(2) end");
+        checker.meant("begin integer i; begin {0}i := 1 end; begin integer i; {1}i := 1 end; {0}i := 2 end");
+        checker.meant("begin l: begin goto {1}l; begin goto {1}l end; l: end; goto {0}l end");
+        checker.meant("begin integer p; begin procedure q(p); integer p; {2}p := 1; {1}q({0}p) end; {0}p := 1 end");
+        checker.meant("begin procedure a; {2}i := 1; procedure b; begin integer i; {3}i := 1 end; integer i; {0}a end");
+        checker.meant("begin integer procedure f(f); value f; integer f; {1}f := 1; {0}f(2) end");
     }
 
     private static void bounds(Checker checker) {
-        meant(checker, "begin integer n; begin integer array a[1:{0}n]; integer n; {2}n := {1}a[{2}n] end end");
-        meant(checker, "begin procedure p(n); integer n; begin integer n; integer array a[{1}n:{1}n]; {2}n := 1 end; end");
-        meant(checker, "begin integer array a[1:2]; begin integer array a[{0}a[1]:2]; {1}a[1] := 2 end end");
+        checker.meant("begin integer n; begin integer array a[1:{0}n]; integer n; {2}n := {1}a[{2}n] end end");
+        checker.meant("begin procedure p(n); integer n; begin integer n; integer array a[{1}n:{1}n]; {2}n := 1 end; end");
+        checker.meant("begin integer array a[1:2]; begin integer array a[{0}a[1]:2]; {1}a[1] := 2 end end");
     }
 
     private static void heads(Checker checker) {
-        meant(checker, "begin procedure pp(xx, yy); value xx; integer xx; boolean array yy; {1}xx := 1; end");
-        meant(checker, "begin own integer cc; boolean dd; {0}cc := 1 end");
+        checker.meant("begin procedure pp(xx, yy); value xx; integer xx; boolean array yy; {1}xx := 1; end");
+        checker.meant("begin own integer cc; boolean dd; {0}cc := 1 end");
     }
 
     private static void lastBytes(Checker checker) {
