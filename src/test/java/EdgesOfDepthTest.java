@@ -157,6 +157,9 @@ public final class EdgesOfDepthTest {
         oneDeeper("integer array c[1:2, |(3):4];");
         oneDeeper("integer array c[1:2, 3:|if true then 4 else 5];");
         twoDeeper("integer procedure q(x); integer x; q := |(x);");
+        twoDeeper("procedure q(x); value x; integer x; |begin end;");
+        twoDeeper("procedure q(x, y, z); value x, y; integer x; boolean y; label z; |begin end;");
+        twoDeeper("procedure q(x, y); integer array x; boolean array y; |begin end;");
     }
 
     private void whatElseIsNotDeeper() {

@@ -316,7 +316,7 @@ public final class EdgesOfFaultsTest {
         for (String actual : "1 true i b a c d f g l z w u i<1 -i (b) a[1] not~b".split(" ")) {
             fault("begin procedure q; r(" + actual.replace('~', ' ') + "); procedure r(|x); ; end");
         }
-        for (String actual : "|nil 1+|true not~|1 |f1 |a[1,2] a[|b] |nil[1]".split(" ")) {
+        for (String actual : "|nil 1+|true not~|1 |f1 |p |s |a[1,2] a[|b] |nil[1]".split(" ")) {
             fault("begin procedure q; r(" + actual.replace('~', ' ') + "); procedure r(x); ; end");
         }
         fault("begin procedure q; |r(1, 2); procedure r(x); ; end");
